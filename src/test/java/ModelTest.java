@@ -1,0 +1,167 @@
+import java.util.Random;
+
+/** Long runs of calls, right and wrong ones, on the program and on the model, answer for answer. */
+public final class ModelTest {
+    private static final int RUNS = 400;
+    private static final int CALLS = 512;
+
+    private final Check check;
+    private final Random random;
+    private final int run;
+    private final WayWatcher watcher = new WayWatcher();
+    private final Model model = new Model();
+    private final int moveLimit;
+    private int moves;
+    private int formulas;
+    private int shownLength;
+
+    private ModelTest(Check check, int run) {
+        this.check = check;
+        this.run = run;
+        random = new Random(run);
+        moveLimit = random.nextInt(18);
+    }
+
+    public static void main(String[] args) {
+        Check check = new Check("ModelTest");
+        for (int run = 0; run < RUNS && !check.anyWrong(); run++) {
+            ModelTest test = new ModelTest(check, run);
+            test.prepare();
+            for (int i = 40; i < CALLS && !check.anyWrong(); i++) {
+                test.someCall();
+            }
+        }
+        check.end();
+    }
+
+    private void prepare() {
+        if (run % 4 == 0) {
+            count();
+        }
+        for (int i = 0; i < 8; i++) {
+            formula();
+        }
+    }
+
+    /** A counter goes through all 64 states, so that long ways come up too. */
+    private void count() {
+        for (int bit = 0; bit < 6; bit++) {
+            moveOf((1 << bit) - 1, 1 << bit, 1 << bit, (1 << bit) - 1, 0);
+        }
+        moveOf(63, 0, 0, 63, 0);
+    }
+
+    private void someCall() {
+        int dice = random.nextInt(100);
+        if (dice < 6) {
+            move();
+        } else if (dice < 12) {
+            formula();
+        } else if (dice < 16) {
+            fair();
+        } else if (dice < 17) {
+            watcher.unfair();
+            model.unfair();
+        } else if (dice < 25) {
+            followers();
+        } else if (dice < 40) {
+            states();
+        } else if (dice < 45) {
+            same("begins()", () -> watcher.begins(), () -> model.begins());
+        } else if (dice < 65) {
+            show();
+        } else {
+            shown();
+        }
+    }
+
+    private int number(int bound) {
+        return random.nextInt(30) == 0 ? random.nextInt() : random.nextInt(bound + 2) - 1;
+    }
+
+    private int mask() {
+        if (random.nextInt(60) == 0) {
+            return random.nextBoolean() ? 64 : -1;
+        }
+        return random.nextInt(64) & random.nextInt(64);
+    }
+
+    private void move() {
+        if (moves >= moveLimit) {
+            return;
+        }
+        int sets = mask();
+        int clears = random.nextInt(20) == 0 ? mask() : mask() & ~sets;
+        int any = random.nextInt(3) == 0 ? mask() & mask() : 0;
+        moveOf(mask(), mask(), sets, clears, any);
+    }
+
+    private void moveOf(int on, int off, int sets, int clears, int any) {
+        String call = "move(" + on + ", " + off + ", " + sets + ", " + clears + ", " + any + ")";
+        moves++;
+        same(call, () -> watcher.move(on, off, sets, clears, any),
+                () -> model.move(on, off, sets, clears, any));
+    }
+
+    private void formula() {
+        int kind = random.nextInt(3) == 0 ? random.nextInt(5) : number(13);
+        int f = kind == 0 ? number(6) : number(formulas);
+        int g = number(formulas);
+        formulas = Math.min(formulas + 1, 32);
+        same("formula(" + kind + ", " + f + ", " + g + ")",
+                () -> watcher.formula(kind, f, g), () -> model.formula(kind, f, g));
+    }
+
+    private void fair() {
+        int f = number(formulas);
+        same("fair(" + f + ")", () -> watcher.fair(f), () -> model.fair(f));
+    }
+
+    private void followers() {
+        int s = number(64);
+        same("followers(" + s + ")", () -> watcher.followers(s), () -> model.followers(s));
+    }
+
+    private void states() {
+        int f = number(formulas);
+        same("states(" + f + ")", () -> watcher.states(f), () -> model.states(f));
+    }
+
+    private void show() {
+        int f = number(formulas);
+        int s = number(64);
+        same("show(" + f + ", " + s + ")", () -> watcher.show(f, s), () -> model.show(f, s));
+        shownLength = 0;
+        same("loop()", () -> watcher.loop(), () -> model.loop());
+        while (shownLength < 251 && Check.outcome(() -> model.shown(shownLength)).equals("nothing")) {
+            shownLength++;
+        }
+        for (int i = 0; i < shownLength; i++) {
+            int at = i;
+            same("shown(" + i + ")", () -> watcher.shown(at), () -> model.shown(at));
+        }
+    }
+
+    private void shown() {
+        int i = number(shownLength + 1);
+        same("shown(" + i + ")", () -> watcher.shown(i), () -> model.shown(i));
+        same("loop()", () -> watcher.loop(), () -> model.loop());
+    }
+
+    /** A call that answers a number. */
+    private interface Asked {
+        long answer();
+    }
+
+    private void same(String call, Asked asked, Asked due) {
+        check.text("run " + run + ": " + call, told(asked), told(due));
+    }
+
+    private static String told(Asked asked) {
+        try {
+            return Long.toString(asked.answer());
+        } catch (RuntimeException e) {
+            return e.getClass().getSimpleName();
+        }
+    }
+}
