@@ -2,8 +2,9 @@ import java.util.Random;
 
 /** Long runs of calls, right and wrong ones, on the program and on the model, answer for answer. */
 public final class ModelTest {
-    private static final int RUNS = 400;
-    private static final int CALLS = 512;
+    private static final int RUNS = 1200;
+    /** The document frees what an object answers after so many calls. */
+    private static final int MAX_CALLS = 512;
 
     private final Check check;
     private final Random random;
@@ -14,6 +15,7 @@ public final class ModelTest {
     private int moves;
     private int formulas;
     private int shownLength;
+    private int calls;
 
     private ModelTest(Check check, int run) {
         this.check = check;
@@ -27,7 +29,7 @@ public final class ModelTest {
         for (int run = 0; run < RUNS && !check.anyWrong(); run++) {
             ModelTest test = new ModelTest(check, run);
             test.prepare();
-            for (int i = 40; i < CALLS && !check.anyWrong(); i++) {
+            while (test.calls < MAX_CALLS && !check.anyWrong()) {
                 test.someCall();
             }
         }
@@ -60,8 +62,7 @@ public final class ModelTest {
         } else if (dice < 16) {
             fair();
         } else if (dice < 17) {
-            watcher.unfair();
-            model.unfair();
+            unfair();
         } else if (dice < 25) {
             followers();
         } else if (dice < 40) {
@@ -88,6 +89,7 @@ public final class ModelTest {
 
     private void move() {
         if (moves >= moveLimit) {
+            followers();
             return;
         }
         int sets = mask();
@@ -115,6 +117,12 @@ public final class ModelTest {
     private void fair() {
         int f = number(formulas);
         same("fair(" + f + ")", () -> watcher.fair(f), () -> model.fair(f));
+    }
+
+    private void unfair() {
+        calls++;
+        watcher.unfair();
+        model.unfair();
     }
 
     private void followers() {
@@ -154,6 +162,10 @@ public final class ModelTest {
     }
 
     private void same(String call, Asked asked, Asked due) {
+        if (calls >= MAX_CALLS) {
+            return;
+        }
+        calls++;
         check.text("run " + run + ": " + call, told(asked), told(due));
     }
 

@@ -1,0 +1,59 @@
+/** Machines and formulas that several tests use. */
+final class Fixtures {
+    private Fixtures() {
+    }
+
+    /**
+     * By bits 0 and 1: 0 goes to 0 and 1, 1 to 2, 3 to 0, and 2 has no move. The other bits stay, so
+     * each set of states is one nibble sixteen times over.
+     */
+    static WayWatcher fork() {
+        WayWatcher x = new WayWatcher();
+        x.move(0, 3, 0, 0, 1);
+        x.move(1, 2, 2, 1, 0);
+        x.move(3, 0, 0, 3, 0);
+        return x;
+    }
+
+    /** State s goes to s + 1, and 63 to 0. */
+    static WayWatcher counter() {
+        WayWatcher x = new WayWatcher();
+        for (int bit = 0; bit < 6; bit++) {
+            x.move((1 << bit) - 1, 1 << bit, 1 << bit, (1 << bit) - 1, 0);
+        }
+        x.move(63, 0, 0, 63, 0);
+        return x;
+    }
+
+    static long nibbles(int nibble) {
+        return nibble * 0x1111111111111111L;
+    }
+
+    /** Formulas 0 .. 5 are the variables and 6 .. 11 what is not so of them. */
+    static void literals(WayWatcher x) {
+        for (int bit = 0; bit < 6; bit++) {
+            x.formula(0, bit, 0);
+        }
+        for (int bit = 0; bit < 6; bit++) {
+            x.formula(2, bit, 0);
+        }
+    }
+
+    /** Behind literals(): a formula that holds in one state alone. */
+    static int onlyIn(WayWatcher x, int s) {
+        int made = (s & 1) != 0 ? 0 : 6;
+        for (int bit = 1; bit < 6; bit++) {
+            made = x.formula(3, made, (s >> bit & 1) != 0 ? bit : bit + 6);
+        }
+        return made;
+    }
+
+    /** The shown way and where its loop begins, as one text. */
+    static String told(WayWatcher x, int length) {
+        StringBuilder text = new StringBuilder();
+        for (int i = 0; i < length; i++) {
+            text.append(x.shown(i)).append(' ');
+        }
+        return text.append("loop ").append(x.loop()).toString();
+    }
+}
