@@ -444,15 +444,15 @@ public final class WayWatcher {
         }
 
         /**
-         * The greatest set within the given one each of whose states has a follower in it from which
-         * every goal is reached within it. Each turn but the last takes away a state.
+         * The greatest set within the given one each of whose states has a follower in it, and reaches
+         * every goal within it. Each turn but the last takes away a state.
          */
         long someAlways(long set) {
             long left = set;
             for (int turn = 0; turn <= STATES; turn++) {
                 long kept = left & machine.sourcesOf(left);
                 for (int i = 0; i < fairness.count(); i++) {
-                    kept &= machine.sourcesOf(machine.reaching(kept & fairness.goal(i), kept));
+                    kept &= machine.reaching(kept & fairness.goal(i), kept);
                 }
                 if (kept == left) {
                     break;

@@ -1,5 +1,12 @@
 /** Machines and formulas that several tests use. */
 final class Fixtures {
+    /** The formulas of forkWithParts(): bit 0, bit 1, what is not so of them, and ALL. */
+    static final int P = 0;
+    static final int Q = 1;
+    static final int NOT_P = 2;
+    static final int NOT_Q = 3;
+    static final int TRUE = 4;
+
     private Fixtures() {
     }
 
@@ -12,6 +19,16 @@ final class Fixtures {
         x.move(0, 3, 0, 0, 1);
         x.move(1, 2, 2, 1, 0);
         x.move(3, 0, 0, 3, 0);
+        return x;
+    }
+
+    static WayWatcher forkWithParts() {
+        WayWatcher x = fork();
+        x.formula(0, 0, 0);
+        x.formula(0, 1, 0);
+        x.formula(2, P, 0);
+        x.formula(2, Q, 0);
+        x.formula(1, 0, 0);
         return x;
     }
 

@@ -1,10 +1,10 @@
 /** Promises 4 and 7: formula, states. */
 public final class FormulasTest {
     private static final Check check = new Check("FormulasTest");
-    private static final int P = 0;
-    private static final int Q = 1;
-    private static final int NOT_P = 2;
-    private static final int NOT_Q = 3;
+    private static final int P = Fixtures.P;
+    private static final int Q = Fixtures.Q;
+    private static final int NOT_P = Fixtures.NOT_P;
+    private static final int NOT_Q = Fixtures.NOT_Q;
 
     public static void main(String[] args) {
         countsFormulas();
@@ -17,6 +17,7 @@ public final class FormulasTest {
         kindsOfFairWays();
         kindsWithoutFairWays();
         kindsInFewFairStates();
+        goesThroughAllStates();
         followsWhatChanges();
         check.end();
     }
@@ -101,21 +102,12 @@ public final class FormulasTest {
         check.equal("both of one", x.states(x.formula(3, 1, 1)), Fixtures.nibbles(0xC));
     }
 
-    private static WayWatcher forkWithParts() {
-        WayWatcher x = Fixtures.fork();
-        x.formula(0, 0, 0);
-        x.formula(0, 1, 0);
-        x.formula(2, P, 0);
-        x.formula(2, Q, 0);
-        return x;
-    }
-
     private static void nibble(WayWatcher x, String what, int kind, int f, int g, int due) {
         check.equal(what, x.states(x.formula(kind, f, g)), Fixtures.nibbles(due));
     }
 
     private static void kindsOfWays() {
-        WayWatcher x = forkWithParts();
+        WayWatcher x = Fixtures.forkWithParts();
         nibble(x, "some next p", 5, P, 0, 0x1);
         nibble(x, "some next q", 5, Q, 0, 0x6);
         nibble(x, "p some until q", 6, P, Q, 0xE);
@@ -136,7 +128,7 @@ public final class FormulasTest {
     }
 
     private static void kindsOfFairWays() {
-        WayWatcher x = forkWithParts();
+        WayWatcher x = Fixtures.forkWithParts();
         x.fair(Q);
         nibble(x, "fair q: some always not q", 7, NOT_Q, 0, 0x0);
         nibble(x, "fair q: each ever q", 12, Q, 0, 0xF);
@@ -147,7 +139,7 @@ public final class FormulasTest {
     }
 
     private static void kindsWithoutFairWays() {
-        WayWatcher x = forkWithParts();
+        WayWatcher x = Fixtures.forkWithParts();
         x.fair(P);
         for (int kind = 5; kind <= 12; kind++) {
             nibble(x, "no fair way: kind " + kind, kind, P, Q, kind < 9 ? 0x0 : 0xF);
@@ -156,7 +148,7 @@ public final class FormulasTest {
     }
 
     private static void kindsInFewFairStates() {
-        WayWatcher x = forkWithParts();
+        WayWatcher x = Fixtures.forkWithParts();
         x.fair(NOT_Q);
         nibble(x, "fair in 0 and 3: some next p", 5, P, 0, 0x0);
         nibble(x, "fair in 0 and 3: some next not q", 5, NOT_Q, 0, 0x9);
@@ -169,8 +161,24 @@ public final class FormulasTest {
         nibble(x, "fair in 0 and 3: each ever q", 12, Q, 0, 0xE);
     }
 
+    private static void goesThroughAllStates() {
+        WayWatcher x = Fixtures.counter();
+        Fixtures.literals(x);
+        int last = Fixtures.onlyIn(x, 63);
+        int notLast = x.formula(2, last, 0);
+        check.equal("63 alone", x.states(last), 1L << 63);
+        check.equal("some ever 63", x.states(x.formula(8, last, 0)), -1L);
+        check.equal("each ever 63", x.states(x.formula(12, last, 0)), -1L);
+        check.equal("some always not 63", x.states(x.formula(7, notLast, 0)), 0L);
+        x.fair(last);
+        check.equal("63 again and again", x.begins(), -1L);
+        x.unfair();
+        x.fair(notLast);
+        check.equal("each ever 63, fair", x.states(x.formula(12, last, 0)), -1L);
+    }
+
     private static void followsWhatChanges() {
-        WayWatcher x = forkWithParts();
+        WayWatcher x = Fixtures.forkWithParts();
         int ever = x.formula(12, Q, 0);
         int next = x.formula(5, ever, 0);
         check.equal("at first", x.states(ever), Fixtures.nibbles(0xE));

@@ -2,7 +2,7 @@ import java.util.Random;
 
 /** Long runs of calls, right and wrong ones, on the program and on the model, answer for answer. */
 public final class ModelTest {
-    private static final int RUNS = 1200;
+    private static final int RUNS = 240;
     /** The document frees what an object answers after so many calls. */
     private static final int MAX_CALLS = 512;
 
@@ -40,9 +40,29 @@ public final class ModelTest {
         if (run % 4 == 0) {
             count();
         }
+        if (run % 8 == 0) {
+            farGoals();
+        }
         for (int i = 0; i < 8; i++) {
             formula();
         }
+    }
+
+    /** Fairness of single states on the counter: ways of about 250 states. */
+    private void farGoals() {
+        for (int bit = 0; bit < 6; bit++) {
+            formulaOf(0, bit, 0);
+            formulaOf(2, 2 * bit, 0);
+        }
+        for (int goal = 0; goal < 3; goal++) {
+            formulaOf(3, random.nextInt(2), 2 + random.nextInt(2));
+            for (int bit = 2; bit < 6; bit++) {
+                formulaOf(3, formulas - 1, 2 * bit + random.nextInt(2));
+            }
+            fairOf(formulas - 1);
+        }
+        formulaOf(1, 0, 0);
+        formulaOf(7, formulas - 1, 0);
     }
 
     /** A counter goes through all 64 states, so that long ways come up too. */
@@ -69,15 +89,19 @@ public final class ModelTest {
             states();
         } else if (dice < 45) {
             same("begins()", () -> watcher.begins(), () -> model.begins());
-        } else if (dice < 65) {
+        } else if (dice < 85) {
             show();
         } else {
             shown();
         }
     }
 
+    /** Most often 0 .. bound - 1, now and then a number beside that. */
     private int number(int bound) {
-        return random.nextInt(30) == 0 ? random.nextInt() : random.nextInt(bound + 2) - 1;
+        if (random.nextInt(20) == 0) {
+            return random.nextInt(3) == 0 ? random.nextInt() : random.nextInt(bound + 2) - 1;
+        }
+        return random.nextInt(Math.max(1, bound));
     }
 
     private int mask() {
@@ -99,23 +123,30 @@ public final class ModelTest {
     }
 
     private void moveOf(int on, int off, int sets, int clears, int any) {
-        String call = "move(" + on + ", " + off + ", " + sets + ", " + clears + ", " + any + ")";
         moves++;
+        String call = "move(" + on + ", " + off + ", " + sets + ", " + clears + ", " + any + ")";
         same(call, () -> watcher.move(on, off, sets, clears, any),
                 () -> model.move(on, off, sets, clears, any));
     }
 
     private void formula() {
-        int kind = random.nextInt(3) == 0 ? random.nextInt(5) : number(13);
-        int f = kind == 0 ? number(6) : number(formulas);
-        int g = number(formulas);
-        formulas = Math.min(formulas + 1, 32);
-        same("formula(" + kind + ", " + f + ", " + g + ")",
-                () -> watcher.formula(kind, f, g), () -> model.formula(kind, f, g));
+        int kind = formulas < 2 ? random.nextInt(2)
+                : random.nextInt(3) == 0 ? random.nextInt(5) : number(13);
+        formulaOf(kind, kind == 0 ? number(6) : number(formulas), number(formulas));
+    }
+
+    private void formulaOf(int kind, int f, int g) {
+        String call = "formula(" + kind + ", " + f + ", " + g + ")";
+        if (same(call, () -> watcher.formula(kind, f, g), () -> model.formula(kind, f, g))) {
+            formulas++;
+        }
     }
 
     private void fair() {
-        int f = number(formulas);
+        fairOf(number(formulas));
+    }
+
+    private void fairOf(int f) {
         same("fair(" + f + ")", () -> watcher.fair(f), () -> model.fair(f));
     }
 
@@ -144,14 +175,15 @@ public final class ModelTest {
         while (shownLength < 251 && Check.outcome(() -> model.shown(shownLength)).equals("nothing")) {
             shownLength++;
         }
-        for (int i = 0; i < shownLength; i++) {
+        // A long way is looked at here and there alone, or it would take all calls of the run.
+        for (int i = 0; i < shownLength; i += 1 + random.nextInt(1 + shownLength / 8)) {
             int at = i;
             same("shown(" + i + ")", () -> watcher.shown(at), () -> model.shown(at));
         }
     }
 
     private void shown() {
-        int i = number(shownLength + 1);
+        int i = number(shownLength);
         same("shown(" + i + ")", () -> watcher.shown(i), () -> model.shown(i));
         same("loop()", () -> watcher.loop(), () -> model.loop());
     }
@@ -161,12 +193,15 @@ public final class ModelTest {
         long answer();
     }
 
-    private void same(String call, Asked asked, Asked due) {
+    /** Whether the call was made and did not throw. */
+    private boolean same(String call, Asked asked, Asked due) {
         if (calls >= MAX_CALLS) {
-            return;
+            return false;
         }
         calls++;
-        check.text("run " + run + ": " + call, told(asked), told(due));
+        String told = told(asked);
+        check.text("run " + run + ": " + call, told, told(due));
+        return !told.endsWith("Exception");
     }
 
     private static String told(Asked asked) {

@@ -1,17 +1,18 @@
 /** Promises 9 to 11: show, shown, loop. */
 public final class ShownWayTest {
     private static final Check check = new Check("ShownWayTest");
-    private static final int P = 0;
-    private static final int Q = 1;
-    private static final int NOT_P = 2;
-    private static final int NOT_Q = 3;
-    private static final int TRUE = 4;
+    private static final int P = Fixtures.P;
+    private static final int Q = Fixtures.Q;
+    private static final int NOT_P = Fixtures.NOT_P;
+    private static final int NOT_Q = Fixtures.NOT_Q;
+    private static final int TRUE = Fixtures.TRUE;
 
     public static void main(String[] args) {
         waysOfTheFork();
         fairWaysOfTheFork();
         leastOfTheNearest();
         keepsWithinTheGround();
+        goesToFairStatesAlone();
         goesByTheOrderOfFairness();
         refusesArguments();
         refusesWhereThereIsNoWay();
@@ -22,22 +23,12 @@ public final class ShownWayTest {
         check.end();
     }
 
-    private static WayWatcher forkWithParts() {
-        WayWatcher x = Fixtures.fork();
-        x.formula(0, 0, 0);
-        x.formula(0, 1, 0);
-        x.formula(2, P, 0);
-        x.formula(2, Q, 0);
-        x.formula(1, 0, 0);
-        return x;
-    }
-
     private static void way(WayWatcher x, String what, int f, int s, String due) {
         check.text(what + " from " + s, Fixtures.told(x, x.show(f, s)), due);
     }
 
     private static void waysOfTheFork() {
-        WayWatcher x = forkWithParts();
+        WayWatcher x = Fixtures.forkWithParts();
         way(x, "some next p", x.formula(5, P, 0), 0, "0 1 2 loop 2");
         int until = x.formula(6, P, Q);
         way(x, "p some until q", until, 1, "1 2 loop 1");
@@ -57,7 +48,7 @@ public final class ShownWayTest {
     }
 
     private static void fairWaysOfTheFork() {
-        WayWatcher x = forkWithParts();
+        WayWatcher x = Fixtures.forkWithParts();
         x.fair(Q);
         int all = x.formula(7, TRUE, 0);
         way(x, "fair q: some always all", all, 0, "0 0 1 2 loop 3");
@@ -82,11 +73,15 @@ public final class ShownWayTest {
         way(x, "some next", x.formula(5, x.formula(0, 1, 0), 0), 0, "0 2 4 loop 2");
     }
 
-    /** The near way from 8 to 4 leads through 2, without bit 3; the far one through 9, 10 and 11. */
+    /**
+     * The near way from 8 to 4 leads through 2, without bit 3; the far one through 9, 10 and 11. And
+     * 24 goes to 8.
+     */
     private static void keepsWithinTheGround() {
         WayWatcher x = new WayWatcher();
-        x.move(8, 7, 2, 8, 0);
-        x.move(8, 7, 1, 0, 0);
+        x.move(16, 0, 0, 16, 0);
+        x.move(8, 23, 2, 8, 0);
+        x.move(8, 23, 1, 0, 0);
         x.move(2, 13, 4, 2, 0);
         x.move(9, 6, 2, 1, 0);
         x.move(10, 5, 1, 0, 0);
@@ -96,9 +91,26 @@ public final class ShownWayTest {
         way(x, "bit 3 until bit 2", x.formula(6, 0, 1), 8, "8 9 10 11 4 loop 4");
         way(x, "ever bit 2", x.formula(8, 1, 0), 8, "8 2 4 loop 2");
         x.fair(1);
-        way(x, "a round goes the near way", x.formula(7, x.formula(1, 0, 0), 0), 8, "8 2 4 loop 2");
-        way(x, "a round keeps to the formula", x.formula(7, x.formula(4, 0, 1), 0), 8,
-                "8 9 10 11 4 loop 4");
+        int all = x.formula(7, x.formula(1, 0, 0), 0);
+        way(x, "a round goes the near way", all, 24, "24 8 2 4 loop 3");
+        int either = x.formula(7, x.formula(4, 0, 1), 0);
+        way(x, "a round's first step keeps to the formula", either, 8, "8 9 10 11 4 loop 4");
+        way(x, "a round keeps to the formula", either, 24, "24 8 9 10 11 4 loop 5");
+    }
+
+    /** Bit 0 is near in 1, from where no fair way goes on, and farther off in 3, by 2. */
+    private static void goesToFairStatesAlone() {
+        WayWatcher x = new WayWatcher();
+        x.move(0, 3, 1, 0, 0);
+        x.move(0, 3, 2, 0, 0);
+        x.move(2, 1, 1, 0, 0);
+        x.formula(0, 0, 0);
+        x.formula(0, 1, 0);
+        int ever = x.formula(8, 0, 0);
+        way(x, "bit 0, by any way", ever, 0, "0 1 loop 1");
+        x.fair(1);
+        way(x, "bit 0, by a fair way", ever, 0, "0 2 3 loop 2");
+        check.refusesState("bit 0 next, by a fair way", () -> x.show(x.formula(5, 0, 0), 0));
     }
 
     private static void goesByTheOrderOfFairness() {
@@ -122,7 +134,7 @@ public final class ShownWayTest {
     }
 
     private static void refusesArguments() {
-        WayWatcher x = forkWithParts();
+        WayWatcher x = Fixtures.forkWithParts();
         int all = x.formula(7, TRUE, 0);
         for (int no : new int[] {-1, 64, Integer.MIN_VALUE, Integer.MAX_VALUE}) {
             check.refusesArgument("state " + no, () -> x.show(all, no));
@@ -134,7 +146,7 @@ public final class ShownWayTest {
     }
 
     private static void refusesWhereThereIsNoWay() {
-        WayWatcher x = forkWithParts();
+        WayWatcher x = Fixtures.forkWithParts();
         x.formula(3, P, Q);
         x.formula(4, P, Q);
         for (int f = 0; f <= 6; f++) {
@@ -162,7 +174,7 @@ public final class ShownWayTest {
     }
 
     private static void throwingShowsNone() {
-        WayWatcher x = forkWithParts();
+        WayWatcher x = Fixtures.forkWithParts();
         int all = x.formula(7, TRUE, 0);
         Check.Call[] wrong = {
             () -> x.show(99, 0), () -> x.show(all, 64), () -> x.show(P, 0),
@@ -178,7 +190,7 @@ public final class ShownWayTest {
     }
 
     private static void staysTillTheNext() {
-        WayWatcher x = forkWithParts();
+        WayWatcher x = Fixtures.forkWithParts();
         int all = x.formula(7, TRUE, 0);
         int next = x.formula(5, P, 0);
         way(x, "first", next, 0, "0 1 2 loop 2");
@@ -196,7 +208,7 @@ public final class ShownWayTest {
     }
 
     private static void refusesIndexes() {
-        WayWatcher x = forkWithParts();
+        WayWatcher x = Fixtures.forkWithParts();
         int next = x.formula(5, P, 0);
         check.equal("three states", x.show(next, 0), 3);
         check.equal("the last", x.shown(2), 2);
