@@ -6,11 +6,17 @@ final class Check {
     }
 
     private final String test;
+    private String sentence = "";
     private int looked;
     private int wrong;
 
     Check(String test) {
         this.test = test;
+    }
+
+    /** What is looked at from now on is what this sentence of the document says. */
+    void sentence(String quoted) {
+        sentence = " [" + quoted + "]";
     }
 
     void equal(String what, long got, long due) {
@@ -73,6 +79,6 @@ final class Check {
 
     private void tell(String what) {
         wrong++;
-        System.out.println(test + ": " + what);
+        System.out.println(test + ": " + what + sentence);
     }
 }

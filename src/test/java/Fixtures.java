@@ -32,12 +32,18 @@ final class Fixtures {
         return x;
     }
 
-    /** State s goes to s + 1, and 63 to 0. */
-    static WayWatcher counter() {
+    /** State s goes to s + 1, and 63 has no move. */
+    static WayWatcher line() {
         WayWatcher x = new WayWatcher();
         for (int bit = 0; bit < 6; bit++) {
             x.move((1 << bit) - 1, 1 << bit, 1 << bit, (1 << bit) - 1, 0);
         }
+        return x;
+    }
+
+    /** State s goes to s + 1, and 63 to 0. */
+    static WayWatcher counter() {
+        WayWatcher x = line();
         x.move(63, 0, 0, 63, 0);
         return x;
     }
@@ -63,6 +69,30 @@ final class Fixtures {
             made = x.formula(3, made, (s >> bit & 1) != 0 ? bit : bit + 6);
         }
         return made;
+    }
+
+    /** The formulas behind those of farGoals(). */
+    static final int FAR_ALL = 20;
+    static final int FAR_NEVER = 21;
+
+    /**
+     * The counter with fairness in 8, then in 4, then in 0 alone. A round from s goes on to 8, to 4 by
+     * 60 steps and to 0 by 60; one from 0 goes to 8 by 8 steps and on as the others, and closes.
+     */
+    static WayWatcher farGoals() {
+        WayWatcher x = counter();
+        literals(x);
+        int low = x.formula(3, x.formula(3, x.formula(3, 6, 7), 10), 11);
+        int eight = x.formula(3, x.formula(3, low, 3), 8);
+        int below = x.formula(3, low, 9);
+        int four = x.formula(3, below, 2);
+        int zero = x.formula(3, below, 8);
+        x.formula(1, 0, 0);
+        x.formula(2, FAR_ALL, 0);
+        x.fair(eight);
+        x.fair(four);
+        x.fair(zero);
+        return x;
     }
 
     /** The shown way and where its loop begins, as one text. */
