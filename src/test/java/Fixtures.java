@@ -71,6 +71,30 @@ final class Fixtures {
         return made;
     }
 
+    /** By bits 0 and 1: formulas 4 .. 7 hold in one of the states 0 .. 3 alone, and 8 in none. */
+    static void fourStates(WayWatcher x) {
+        x.formula(0, 0, 0);
+        x.formula(0, 1, 0);
+        x.formula(2, 0, 0);
+        x.formula(2, 1, 0);
+        x.formula(3, 2, 3);
+        x.formula(3, 0, 3);
+        x.formula(3, 2, 1);
+        x.formula(3, 0, 1);
+        x.formula(3, 0, 2);
+    }
+
+    /** Behind fourStates(): a formula that holds in a set of these four; it makes at most 3. */
+    static int anyOfFour(WayWatcher x, int set) {
+        int made = 8;
+        for (int s = 0; s < 4; s++) {
+            if ((set >> s & 1) != 0) {
+                made = made == 8 ? 4 + s : x.formula(4, made, 4 + s);
+            }
+        }
+        return made;
+    }
+
     /** The formulas behind those of farGoals(). */
     static final int FAR_ALL = 20;
     static final int FAR_NEVER = 21;
